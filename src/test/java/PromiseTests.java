@@ -62,6 +62,7 @@ public final class PromiseTests {
         correctReckonsFiveTimes();
         correctUnknownWords();
         correctTies();
+        correctAmongAll();
         correctRefuses();
         promise = "16 corrected";
         correctedWords();
@@ -147,10 +148,16 @@ public final class PromiseTests {
         due("first stays", desk.cost(1, number("a")), 9998);
         due("last stays", desk.cost(1, number("b")), 9996);
         refused("dropped", NoSuchElementException.class, () -> desk.cost(1, number("ab")));
-        desk.drop(number("a"));
-        desk.drop(number("b"));
+        due("the last one", desk.drop(number("b")), true);
+        due("the last one is gone", desk.drop(number("b")), false);
+        due("the only one", desk.drop(number("a")), true);
+        due("the only one is gone", desk.drop(number("a")), false);
         due("the dictionary keeps its words", desk.cost(1, number("a")), 9998);
         refused("all dropped", IllegalStateException.class, desk::build);
+        SuggestDesk full = new SuggestDesk();
+        fill(full, 24);
+        due("behind the last of 24", full.drop(number("jj")), false);
+        due("the last of 24", full.drop(twoLetters(23)), true);
     }
 
     // Promise 4
@@ -484,6 +491,7 @@ public final class PromiseTests {
         distanceDue("abcd", "acbd", 1);
         distanceDue("abc", "acd", 2);
         distanceDue("aaaa", "aa", 2);
+        distanceDue("abcdefgh", "ah", 6);
         SuggestDesk desk = new SuggestDesk();
         for (long no : NO_WORDS) {
             refused("first " + no, IllegalArgumentException.class, () -> desk.distance(no, number("a")));
@@ -625,6 +633,19 @@ public final class PromiseTests {
         corrects(order, 1, "e", 3000 + 9949, "a");
         desk.learn(number("b"), number("b"));
         corrects(desk, 1, "d d d d", 4 * (3000 + 9949) - 3 * 400, "a", "b", "a", "b");
+    }
+
+    private static void correctAmongAll() {
+        String[] near = "a aa ba ca da ea fa ga ha ia ja ab ac ad ae af ag ah ai aj aab aac aad aae".split(" ");
+        SuggestDesk desk = new SuggestDesk();
+        for (String word : near) {
+            desk.word(number(word), 10);
+        }
+        desk.build();
+        corrects(desk, 1, "aa aa aa aa", 4 * 9989, "aa", "aa", "aa", "aa");
+        desk.word(number("ja"), 9999);
+        desk.build();
+        corrects(desk, 2, "aa aa aa aa", 4 * 3000, "ja", "ja", "ja", "ja");
     }
 
     private static void correctRefuses() {
