@@ -13,11 +13,7 @@ import java.util.TreeMap;
  * Long runs of calls on SuggestDesk beside a model that follows the document's words with
  * texts and maps, slowly and without any cleverness. The runs are the same each time.
  */
-public final class ModelTests {
-    private interface Call {
-        Object run();
-    }
-
+public final class ModelTests extends Checks {
     private static final int RUNS = 1500;
     private static final int CALLS = 512;
 
@@ -108,14 +104,6 @@ public final class ModelTests {
             wrong++;
             System.out.println(String.join("\n", told));
             System.out.println("the last call answered " + got + ", due is " + want);
-        }
-    }
-
-    private static Object outcome(Call call) {
-        try {
-            return call.run();
-        } catch (RuntimeException thrown) {
-            return thrown.getClass();
         }
     }
 

@@ -1,62 +1,54 @@
 import java.util.NoSuchElementException;
 
 /** Each promise of the document: ordinary inputs, the edges it names, and wrong inputs. */
-public final class PromiseTests {
-    private interface Call {
-        Object run();
-    }
-
+public final class PromiseTests extends Checks {
     private static final long[] NO_WORDS = {
         0, 1, 96, 107, 255, -1, Long.MIN_VALUE, Long.MAX_VALUE,
         number("a") << 8, number("a") << 56, number("k"), number("A"), number("ak"), number("ka"),
         number("abcdefg") << 8, (number("a") << 16) | number("a"), number("abcdefgh") | (128L << 56)
     };
 
-    private static int checks = 0;
-    private static int wrong = 0;
-    private static String promise = "";
-
     public static void main(String[] args) {
-        promise = "1 new object";
+        part("promise 1 new object");
         newObject();
-        promise = "2 word";
+        part("promise 2 word");
         wordCountsAndChanges();
         wordRefusesWrongInputs();
         wordRefusesTheTwentyFifth();
-        promise = "3 drop";
+        part("promise 3 drop");
         dropTakesOut();
-        promise = "4 build";
+        part("promise 4 build");
         buildNumbers();
         buildRefuses();
         buildKeepsWhatReadersHold();
-        promise = "5 hold";
+        part("promise 5 hold");
         holdCurrent();
-        promise = "6 release";
+        part("promise 6 release");
         releaseTells();
-        promise = "7 look";
+        part("promise 7 look");
         lookCounts();
         lookRefuses();
         automatonSharesEndings();
         automatonMindsCosts();
-        promise = "8 cost";
+        part("promise 8 cost");
         costOfWords();
-        promise = "9 complete";
+        part("promise 9 complete");
         completeInOrder();
         completeLimits();
         completeRefuses();
-        promise = "10 near";
+        part("promise 10 near");
         nearInOrder();
         nearRefuses();
-        promise = "11 given";
+        part("promise 11 given");
         givenWords();
-        promise = "12 distance";
+        part("promise 12 distance");
         distances();
-        promise = "13 learn";
+        part("promise 13 learn");
         learnCounts();
         learnRefuses();
-        promise = "14 say";
+        part("promise 14 say");
         sayCounts();
-        promise = "15 correct";
+        part("promise 15 correct");
         correctSingleWords();
         correctByPairs();
         correctReckonsFiveTimes();
@@ -64,12 +56,9 @@ public final class PromiseTests {
         correctTies();
         correctAmongAll();
         correctRefuses();
-        promise = "16 corrected";
+        part("promise 16 corrected");
         correctedWords();
-        System.out.println(checks + " checks, " + wrong + " wrong");
-        if (wrong != 0) {
-            System.exit(1);
-        }
+        end();
     }
 
     // Promise 1
@@ -690,86 +679,5 @@ public final class PromiseTests {
         desk.build();
         corrected(desk, "abcdefgh", "a");
         corrects(desk, 2, "jjjj", 20000, "jjjj");
-    }
-
-    // What the tests share
-
-    private static long number(String letters) {
-        long number = 0;
-        for (char letter : letters.toCharArray()) {
-            number = number << 8 | letter;
-        }
-        return number;
-    }
-
-    private static long twoLetters(int i) {
-        return number("" + (char) ('a' + i / 10) + (char) ('a' + i % 10));
-    }
-
-    private static void fill(SuggestDesk desk, int count) {
-        for (int i = 0; i < count; i++) {
-            due("word " + i, desk.word(twoLetters(i), i), i + 1);
-        }
-    }
-
-    /** A desk with a draft of words, each told as letters and weight. */
-    private static SuggestDesk desk(String... words) {
-        SuggestDesk desk = new SuggestDesk();
-        for (String word : words) {
-            String[] parts = word.split(" ");
-            desk.word(number(parts[0]), Integer.parseInt(parts[1]));
-        }
-        return desk;
-    }
-
-    private static void looks(SuggestDesk desk, int dictionary, int words, int states, int arcs) {
-        due("words", desk.look(dictionary, 0), words);
-        due("states", desk.look(dictionary, 1), states);
-        due("arcs", desk.look(dictionary, 2), arcs);
-    }
-
-    private static void given(SuggestDesk desk, String... words) {
-        for (int k = 0; k < words.length; k++) {
-            due("given " + k, desk.given(k), number(words[k]));
-        }
-        refused("given before the first", IndexOutOfBoundsException.class, () -> desk.given(-1));
-        refused("given behind the last", IndexOutOfBoundsException.class, () -> desk.given(words.length));
-    }
-
-    private static void corrected(SuggestDesk desk, String... words) {
-        for (int k = 0; k < words.length; k++) {
-            due("corrected " + k, desk.corrected(k), number(words[k]));
-        }
-        refused("corrected before the first", IndexOutOfBoundsException.class, () -> desk.corrected(-1));
-        refused("corrected behind the last", IndexOutOfBoundsException.class, () -> desk.corrected(words.length));
-    }
-
-    private static void corrects(SuggestDesk desk, int dictionary, String phrase, int cost, String... words) {
-        for (String word : phrase.split(" ")) {
-            desk.say(number(word));
-        }
-        due("cost of " + phrase, desk.correct(dictionary), cost);
-        corrected(desk, words);
-    }
-
-    /** What a call answers, or the class of what it throws. */
-    private static Object outcome(Call call) {
-        try {
-            return call.run();
-        } catch (RuntimeException thrown) {
-            return thrown.getClass();
-        }
-    }
-
-    private static void refused(String what, Class<? extends RuntimeException> thrown, Call call) {
-        due(what, outcome(call), thrown);
-    }
-
-    private static void due(String what, Object got, Object want) {
-        checks++;
-        if (!got.equals(want)) {
-            wrong++;
-            System.out.println("promise " + promise + ": " + what + ": " + got + ", due is " + want);
-        }
     }
 }
