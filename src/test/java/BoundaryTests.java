@@ -56,6 +56,7 @@ public final class BoundaryTests extends Checks {
         sentence("PAIRS: for two words (of any letters)", BoundaryTests::pairsAreApart);
         sentence("TO CORRECT a phrase of 1 to 4 words", BoundaryTests::phrasesAtTheEdges);
         sentence("a CANDIDATE: with a distance up to 1", BoundaryTests::candidatesUpToOne);
+        sentence("a CANDIDATE of the most words", BoundaryTests::candidatesAtTheMost);
         sentence("the word itself when it has no such one: 20000", BoundaryTests::wordItself);
         sentence("3000 times the distance of each, its cost", BoundaryTests::changeAgainstCost);
         sentence("400 less for each learnt time of each two that follow", BoundaryTests::learntTimesOfEachTwo);
@@ -470,6 +471,27 @@ public final class BoundaryTests extends Checks {
         }
     }
 
+    /** Every word of the largest dictionary is a candidate for every word of the longest phrase. */
+    private static void candidatesAtTheMost() {
+        SuggestDesk desk = new SuggestDesk();
+        String near = "a aa ba ca da ea fa ga ha ia ja ab ac ad ae af ag ah ai aj aab aac aad aae";
+        for (String word : near.split(" ")) {
+            desk.word(number(word), 10);
+        }
+        desk.build();
+        due("words", desk.near(1, number("aa"), 1), 24);
+        corrects(desk, 1, "aa aa aa aa", 4 * 9989, "aa", "aa", "aa", "aa");
+        for (int times = 0; times < 5; times++) {
+            desk.learn(number("ja"), number("ja"));
+            desk.learn(number("ja"), A);
+        }
+        // Three times 2000 less do not outweigh four changes.
+        corrects(desk, 1, "aa aa aa aa", 4 * 9989, "aa", "aa", "aa", "aa");
+        desk.word(number("ja"), 2010);
+        desk.build();
+        corrects(desk, 2, "aa aa aa aa", 4 * (9989 - 2000 + 3000) - 3 * 2000, "ja", "ja", "ja", "ja");
+    }
+
     private static void wordItself() {
         SuggestDesk desk = built("a 0");
         corrects(desk, 1, "bb", 20000, "bb");
@@ -513,6 +535,9 @@ public final class BoundaryTests extends Checks {
         SuggestDesk even = built("a 9999", "b 9599", "eeee 9999");
         even.learn(number("b"), number("eeee"));
         corrects(even, 1, "c eeee", 3000, "a", "eeee");
+        even.learn(number("eeee"), number("b"));
+        even.learn(number("eeee"), number("b"));
+        corrects(even, 1, "eeee c", 3000 + 400 - 800, "eeee", "b");
     }
 
     private static void fiveTimesAreReckoned() {
@@ -1234,12 +1259,6 @@ public final class BoundaryTests extends Checks {
             due("1 is there", desk.look(1, 0), 1);
             due("3 is there", desk.look(3, 0), 1);
         }
-    }
-
-    private static void distanceDue(String a, String b, int want) {
-        SuggestDesk desk = new SuggestDesk();
-        due(a + " to " + b, desk.distance(number(a), number(b)), want);
-        due(b + " to " + a, desk.distance(number(b), number(a)), want);
     }
 
     /** Words of each length with the first and the last letter at each place. */

@@ -1,20 +1,12 @@
 import java.util.NoSuchElementException;
 
-/** Each promise of the document: ordinary inputs, the edges it names, and wrong inputs. */
+/** Each promise of the document in use; BoundaryTests has the boundary cases one by one. */
 public final class PromiseTests extends Checks {
-    private static final long[] NO_WORDS = {
-        0, 1, 96, 107, 255, -1, Long.MIN_VALUE, Long.MAX_VALUE,
-        number("a") << 8, number("a") << 56, number("k"), number("A"), number("ak"), number("ka"),
-        number("abcdefg") << 8, (number("a") << 16) | number("a"), number("abcdefgh") | (128L << 56)
-    };
-
     public static void main(String[] args) {
         part("promise 1 new object");
         newObject();
         part("promise 2 word");
         wordCountsAndChanges();
-        wordRefusesWrongInputs();
-        wordRefusesTheTwentyFifth();
         part("promise 3 drop");
         dropTakesOut();
         part("promise 4 build");
@@ -27,34 +19,27 @@ public final class PromiseTests extends Checks {
         releaseTells();
         part("promise 7 look");
         lookCounts();
-        lookRefuses();
         automatonSharesEndings();
         automatonMindsCosts();
         part("promise 8 cost");
         costOfWords();
         part("promise 9 complete");
         completeInOrder();
-        completeLimits();
-        completeRefuses();
         part("promise 10 near");
         nearInOrder();
-        nearRefuses();
         part("promise 11 given");
         givenWords();
         part("promise 12 distance");
         distances();
         part("promise 13 learn");
         learnCounts();
-        learnRefuses();
         part("promise 14 say");
         sayCounts();
         part("promise 15 correct");
         correctSingleWords();
         correctByPairs();
-        correctReckonsFiveTimes();
         correctUnknownWords();
         correctTies();
-        correctAmongAll();
         correctRefuses();
         part("promise 16 corrected");
         correctedWords();
@@ -97,39 +82,11 @@ public final class PromiseTests extends Checks {
         due("weight 0", desk.cost(2, number("j")), 9999);
     }
 
-    private static void wordRefusesWrongInputs() {
-        SuggestDesk desk = new SuggestDesk();
-        for (long no : NO_WORDS) {
-            refused("no word " + no, IllegalArgumentException.class, () -> desk.word(no, 1));
-        }
-        int[] noWeights = {-1, 10000, Integer.MIN_VALUE, Integer.MAX_VALUE};
-        for (int no : noWeights) {
-            refused("no weight " + no, IllegalArgumentException.class, () -> desk.word(number("a"), no));
-        }
-        refused("nothing came in", IllegalStateException.class, desk::build);
-    }
-
-    private static void wordRefusesTheTwentyFifth() {
-        SuggestDesk desk = new SuggestDesk();
-        fill(desk, 24);
-        refused("the 25th", IllegalStateException.class, () -> desk.word(number("jjj"), 1));
-        refused("no word comes before full", IllegalArgumentException.class, () -> desk.word(0, 1));
-        refused("no weight comes before full", IllegalArgumentException.class, () -> desk.word(number("jjj"), -1));
-        due("another weight when full", desk.word(number("aa"), 7), 24);
-        desk.drop(number("aa"));
-        due("room again", desk.word(number("jjj"), 1), 24);
-        desk.build();
-        due("words", desk.look(1, 0), 24);
-    }
-
     // Promise 3
 
     private static void dropTakesOut() {
         SuggestDesk desk = desk("a 1", "ab 2", "b 3");
         due("not there", desk.drop(number("aba")), false);
-        for (long no : NO_WORDS) {
-            due("no word " + no, desk.drop(no), false);
-        }
         due("there", desk.drop(number("ab")), true);
         due("gone", desk.drop(number("ab")), false);
         desk.build();
@@ -260,20 +217,6 @@ public final class PromiseTests extends Checks {
         due("24 words", most.look(1, 0), 24);
     }
 
-    private static void lookRefuses() {
-        SuggestDesk desk = desk("a 1");
-        desk.build();
-        int[] noWhat = {-1, 4, Integer.MIN_VALUE, Integer.MAX_VALUE};
-        for (int what : noWhat) {
-            refused("no what " + what, IllegalArgumentException.class, () -> desk.look(1, what));
-            refused("no dictionary comes first " + what, NoSuchElementException.class, () -> desk.look(2, what));
-        }
-        int[] noDictionary = {0, -1, 2, Integer.MIN_VALUE, Integer.MAX_VALUE};
-        for (int no : noDictionary) {
-            refused("no dictionary " + no, NoSuchElementException.class, () -> desk.look(no, 0));
-        }
-    }
-
     private static void automatonSharesEndings() {
         SuggestDesk ends = desk("ac 1", "bc 1");
         ends.build();
@@ -318,9 +261,6 @@ public final class PromiseTests extends Checks {
         for (String other : others) {
             refused("not there " + other, NoSuchElementException.class, () -> desk.cost(1, number(other)));
         }
-        for (long no : NO_WORDS) {
-            refused("no word " + no, NoSuchElementException.class, () -> desk.cost(1, no));
-        }
         refused("no dictionary", NoSuchElementException.class, () -> desk.cost(2, number("a")));
         refused("no dictionary 0", NoSuchElementException.class, () -> desk.cost(0, number("a")));
     }
@@ -348,44 +288,6 @@ public final class PromiseTests extends Checks {
         given(eight, "abcdefgh");
     }
 
-    private static void completeLimits() {
-        SuggestDesk desk = desk("a 10", "b 30", "c 20", "d 30");
-        desk.build();
-        due("none", desk.complete(1, 0, 0), 0);
-        given(desk);
-        due("one", desk.complete(1, 0, 1), 1);
-        given(desk, "b");
-        due("two", desk.complete(1, 0, 2), 2);
-        given(desk, "b", "d");
-        due("three", desk.complete(1, 0, 3), 3);
-        given(desk, "b", "d", "c");
-        due("four", desk.complete(1, 0, 4), 4);
-        given(desk, "b", "d", "c", "a");
-        SuggestDesk full = new SuggestDesk();
-        fill(full, 24);
-        full.build();
-        due("24", full.complete(1, 0, 24), 24);
-        due("23", full.complete(1, 0, 23), 23);
-    }
-
-    private static void completeRefuses() {
-        SuggestDesk desk = desk("a 1");
-        desk.build();
-        for (long no : NO_WORDS) {
-            if (no != 0) {
-                refused("no beginning " + no, IllegalArgumentException.class, () -> desk.complete(1, no, 5));
-                refused("before no dictionary " + no, IllegalArgumentException.class, () -> desk.complete(2, no, 5));
-            }
-        }
-        int[] noN = {-1, 25, Integer.MIN_VALUE, Integer.MAX_VALUE};
-        for (int n : noN) {
-            refused("no n " + n, IllegalArgumentException.class, () -> desk.complete(1, 0, n));
-            refused("before no dictionary " + n, IllegalArgumentException.class, () -> desk.complete(2, 0, n));
-        }
-        refused("no dictionary", NoSuchElementException.class, () -> desk.complete(2, 0, 5));
-        refused("no dictionary 0", NoSuchElementException.class, () -> desk.complete(0, 0, 5));
-    }
-
     // Promise 10
 
     private static void nearInOrder() {
@@ -409,23 +311,6 @@ public final class PromiseTests extends Checks {
         fill(full, 24);
         full.build();
         due("all of two letters", full.near(1, number("ja"), 2), 24);
-    }
-
-    private static void nearRefuses() {
-        SuggestDesk desk = desk("a 1");
-        desk.build();
-        for (long no : NO_WORDS) {
-            refused("no word " + no, IllegalArgumentException.class, () -> desk.near(1, no, 1));
-            refused("before no dictionary " + no, IllegalArgumentException.class, () -> desk.near(2, no, 1));
-        }
-        int[] noDistance = {-1, 3, Integer.MIN_VALUE, Integer.MAX_VALUE};
-        for (int far : noDistance) {
-            refused("no distance " + far, IllegalArgumentException.class, () -> desk.near(1, number("a"), far));
-            refused("before no dictionary " + far, IllegalArgumentException.class,
-                    () -> desk.near(2, number("a"), far));
-        }
-        refused("no dictionary", NoSuchElementException.class, () -> desk.near(2, number("a"), 1));
-        refused("no dictionary 0", NoSuchElementException.class, () -> desk.near(0, number("a"), 1));
     }
 
     // Promise 11
@@ -481,17 +366,6 @@ public final class PromiseTests extends Checks {
         distanceDue("abc", "acd", 2);
         distanceDue("aaaa", "aa", 2);
         distanceDue("abcdefgh", "ah", 6);
-        SuggestDesk desk = new SuggestDesk();
-        for (long no : NO_WORDS) {
-            refused("first " + no, IllegalArgumentException.class, () -> desk.distance(no, number("a")));
-            refused("second " + no, IllegalArgumentException.class, () -> desk.distance(number("a"), no));
-        }
-    }
-
-    private static void distanceDue(String a, String b, int want) {
-        SuggestDesk desk = new SuggestDesk();
-        due(a + " to " + b, desk.distance(number(a), number(b)), want);
-        due(b + " to " + a, desk.distance(number(b), number(a)), want);
     }
 
     // Promise 13
@@ -508,30 +382,11 @@ public final class PromiseTests extends Checks {
         }
     }
 
-    private static void learnRefuses() {
-        SuggestDesk desk = new SuggestDesk();
-        for (long no : NO_WORDS) {
-            refused("first " + no, IllegalArgumentException.class, () -> desk.learn(no, number("a")));
-            refused("second " + no, IllegalArgumentException.class, () -> desk.learn(number("a"), no));
-        }
-        for (int i = 0; i < 40; i++) {
-            due("pair " + i, desk.learn(twoLetters(i), number("j")), 1);
-        }
-        refused("the 41st", IllegalStateException.class, () -> desk.learn(number("j"), number("j")));
-        refused("no word comes first", IllegalArgumentException.class, () -> desk.learn(number("j"), 0));
-        due("one of the 40", desk.learn(twoLetters(0), number("j")), 2);
-        due("the last of the 40", desk.learn(twoLetters(39), number("j")), 2);
-        refused("the 41st again", IllegalStateException.class, () -> desk.learn(twoLetters(0), number("i")));
-    }
-
     // Promise 14
 
     private static void sayCounts() {
         SuggestDesk desk = desk("a 1");
         desk.build();
-        for (long no : NO_WORDS) {
-            refused("no word " + no, IllegalArgumentException.class, () -> desk.say(no));
-        }
         for (int i = 1; i <= 4; i++) {
             due("said " + i, desk.say(number("a")), i);
         }
@@ -585,15 +440,6 @@ public final class PromiseTests extends Checks {
         corrects(back, 1, "c eeee", 3000 - 400, "b", "eeee");
     }
 
-    private static void correctReckonsFiveTimes() {
-        SuggestDesk desk = desk("a 9999", "eeee 9999");
-        desk.build();
-        for (int i = 1; i <= 8; i++) {
-            desk.learn(number("a"), number("eeee"));
-            corrects(desk, 1, "a eeee", -400 * Math.min(i, 5), "a", "eeee");
-        }
-    }
-
     private static void correctUnknownWords() {
         SuggestDesk desk = desk("a 9999");
         desk.build();
@@ -622,19 +468,6 @@ public final class PromiseTests extends Checks {
         corrects(order, 1, "e", 3000 + 9949, "a");
         desk.learn(number("b"), number("b"));
         corrects(desk, 1, "d d d d", 4 * (3000 + 9949) - 3 * 400, "a", "b", "a", "b");
-    }
-
-    private static void correctAmongAll() {
-        String[] near = "a aa ba ca da ea fa ga ha ia ja ab ac ad ae af ag ah ai aj aab aac aad aae".split(" ");
-        SuggestDesk desk = new SuggestDesk();
-        for (String word : near) {
-            desk.word(number(word), 10);
-        }
-        desk.build();
-        corrects(desk, 1, "aa aa aa aa", 4 * 9989, "aa", "aa", "aa", "aa");
-        desk.word(number("ja"), 9999);
-        desk.build();
-        corrects(desk, 2, "aa aa aa aa", 4 * 3000, "ja", "ja", "ja", "ja");
     }
 
     private static void correctRefuses() {

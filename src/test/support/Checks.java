@@ -120,4 +120,10 @@ public abstract class Checks {
         due("cost of " + phrase, outcome(() -> desk.correct(dictionary)), cost);
         corrected(desk, words);
     }
+
+    protected static void distanceDue(String a, String b, int want) {
+        SuggestDesk desk = new SuggestDesk();
+        due(a + " to " + b, desk.distance(number(a), number(b)), want);
+        due(b + " to " + a, desk.distance(number(b), number(a)), want);
+    }
 }
