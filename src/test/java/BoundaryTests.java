@@ -421,6 +421,10 @@ public final class BoundaryTests extends Checks {
         SuggestDesk desk = built("ab 0", "aa 9998", "ac 9999", "ad 9998", "aj 0", "cc 9999", "cb 0");
         due("up to 2", desk.near(1, number("ab"), 2), 7);
         given(desk, "ab", "ac", "aa", "ad", "aj", "cb", "cc");
+        // The highest cost comes before the lowest one a step farther, though that comes first in order.
+        SuggestDesk steps = built("jj 0", "ij 0", "aj 9999", "aa 9999");
+        due("up to 2", steps.near(1, number("jj"), 2), 4);
+        given(steps, "jj", "aj", "ij", "aa");
     }
 
     // Terms: pairs and phrases

@@ -2,16 +2,29 @@ import java.lang.reflect.Constructor;
 import java.lang.reflect.Field;
 import java.lang.reflect.Method;
 import java.lang.reflect.Modifier;
+import java.util.Arrays;
 import java.util.Set;
 import java.util.TreeSet;
+import java.util.stream.Collectors;
 
 /** The class's face: just what the document tells, and no private method with a name of it. */
 public final class FaceTests {
     private static final Set<String> FACE = Set.of(
-        "int word(long,int)", "boolean drop(long)", "int build()", "int hold()", "boolean release(int)",
-        "int look(int,int)", "int cost(int,long)", "int complete(int,long,int)", "int near(int,long,int)",
-        "long given(int)", "int distance(long,long)", "int learn(long,long)", "int say(long)",
-        "int correct(int)", "long corrected(int)");
+        "int word(long, int) throws IllegalArgumentException, IllegalStateException",
+        "boolean drop(long)",
+        "int build() throws IllegalStateException",
+        "int hold() throws IllegalStateException",
+        "boolean release(int) throws IllegalArgumentException",
+        "int look(int, int) throws NoSuchElementException, IllegalArgumentException",
+        "int cost(int, long) throws NoSuchElementException",
+        "int complete(int, long, int) throws IllegalArgumentException, NoSuchElementException",
+        "int near(int, long, int) throws IllegalArgumentException, NoSuchElementException",
+        "long given(int) throws IndexOutOfBoundsException",
+        "int distance(long, long) throws IllegalArgumentException",
+        "int learn(long, long) throws IllegalArgumentException, IllegalStateException",
+        "int say(long) throws IllegalArgumentException, IllegalStateException",
+        "int correct(int) throws NoSuchElementException, IllegalStateException",
+        "long corrected(int) throws IndexOutOfBoundsException");
 
     private static int wrong = 0;
 
@@ -23,6 +36,7 @@ public final class FaceTests {
         due("one constructor", constructors.length == 1);
         due("public, without parameters",
             Modifier.isPublic(constructors[0].getModifiers()) && constructors[0].getParameterCount() == 0);
+        due("that declares no exception", constructors[0].getExceptionTypes().length == 0);
         for (Field field : face.getDeclaredFields()) {
             due("private field " + field.getName(), Modifier.isPrivate(field.getModifiers()));
         }
@@ -58,13 +72,13 @@ public final class FaceTests {
     }
 
     private static String signature(Method method) {
-        StringBuilder text = new StringBuilder(method.getReturnType().getName() + " " + method.getName() + "(");
-        String between = "";
-        for (Class<?> type : method.getParameterTypes()) {
-            text.append(between).append(type.getName());
-            between = ",";
-        }
-        return text.append(")").toString();
+        String thrown = names(method.getExceptionTypes());
+        return method.getReturnType().getName() + " " + method.getName() + "(" + names(method.getParameterTypes()) + ")"
+            + (thrown.isEmpty() ? "" : " throws " + thrown);
+    }
+
+    private static String names(Class<?>[] types) {
+        return Arrays.stream(types).map(Class::getSimpleName).collect(Collectors.joining(", "));
     }
 
     private static void due(String what, boolean holds) {

@@ -15,7 +15,10 @@ import java.util.TreeMap;
  */
 public final class ModelTests extends Checks {
     private static final int RUNS = 1500;
+    /** What an object answers behind so many calls is free, so none is asked for more. */
     private static final int CALLS = 512;
+    /** The calls that the runs make more often, in turn, so that each limit is reached. */
+    private static final int[] FAVOURED = {0, 5, 6, 11, 12, 14, 16, 19};
 
     private static int wrong = 0;
     private static long seed = 20261115;
@@ -37,7 +40,7 @@ public final class ModelTests extends Checks {
         int letters = 1 + pick(run % 3 == 0 ? 10 : 3);
         int longest = 1 + pick(8);
         int weights = run % 2 == 0 ? 4 : 10000;
-        for (int call = 0; call < CALLS && wrong == 0; call++) {
+        while (told.size() < CALLS && wrong == 0) {
             step(desk, model, told, new int[] {letters, longest, weights, run});
         }
     }
@@ -45,11 +48,11 @@ public final class ModelTests extends Checks {
     private static void step(SuggestDesk desk, Model model, List<String> told, int[] kind) {
         long a = someNumber(kind[0], kind[1]);
         long b = someNumber(kind[0], kind[1]);
-        int dictionary = pick(20) == 0 ? pick(9) - 4 : Math.max(0, model.made - pick(5));
+        int dictionary = someDictionary(model);
         int small = pick(30) == 0 ? pick(100) - 50 : pick(5);
         int weight = pick(30) == 0 ? 9990 + pick(20) : pick(40) == 0 ? -1 : pick(kind[2]);
         int n = pick(3) == 0 ? pick(28) - 1 : 24;
-        switch (pick(20)) {
+        switch (pick(3) == 0 ? FAVOURED[kind[3] % FAVOURED.length] : pick(20)) {
             case 0, 1, 2, 3 -> both(told, "word " + a + " " + weight,
                 () -> desk.word(a, weight), () -> model.word(a, weight));
             case 4 -> {
@@ -72,8 +75,9 @@ public final class ModelTests extends Checks {
                 allGiven(desk, model, told);
             }
             case 12 -> {
-                both(told, "near " + dictionary + " " + a + " " + small,
-                    () -> desk.near(dictionary, a, small), () -> model.near(dictionary, a, small));
+                int far = pick(10) == 0 ? small : pick(3);
+                both(told, "near " + dictionary + " " + a + " " + far,
+                    () -> desk.near(dictionary, a, far), () -> model.near(dictionary, a, far));
                 allGiven(desk, model, told);
             }
             case 13 -> both(told, "distance " + a + " " + b, () -> desk.distance(a, b), () -> model.distance(a, b));
@@ -81,22 +85,34 @@ public final class ModelTests extends Checks {
             case 16, 17, 18 -> both(told, "say " + a, () -> desk.say(a), () -> model.say(a));
             default -> {
                 both(told, "correct " + dictionary, () -> desk.correct(dictionary), () -> model.correct(dictionary));
-                for (int k = -1; k <= 4; k++) {
-                    int at = k;
-                    both(told, "corrected " + at, () -> desk.corrected(at), () -> model.wordAt(model.corrected, at));
-                }
+                allCorrected(desk, model, told);
             }
         }
     }
 
     private static void allGiven(SuggestDesk desk, Model model, List<String> told) {
-        for (int k = -1; k <= 24; k++) {
+        for (int k = firstAsked(); k <= model.given.size(); k++) {
             int at = k;
             both(told, "given " + at, () -> desk.given(at), () -> model.wordAt(model.given, at));
         }
     }
 
+    private static void allCorrected(SuggestDesk desk, Model model, List<String> told) {
+        for (int k = firstAsked(); k <= model.corrected.size(); k++) {
+            int at = k;
+            both(told, "corrected " + at, () -> desk.corrected(at), () -> model.wordAt(model.corrected, at));
+        }
+    }
+
+    /** Now and then the one before the first is asked for too. */
+    private static int firstAsked() {
+        return pick(8) == 0 ? -1 : 0;
+    }
+
     private static void both(List<String> told, String call, Call desk, Call model) {
+        if (told.size() >= CALLS) {
+            return;
+        }
         Object got = outcome(desk);
         Object want = outcome(model);
         told.add(call + " = " + want);
@@ -105,6 +121,15 @@ public final class ModelTests extends Checks {
             System.out.println(String.join("\n", told));
             System.out.println("the last call answered " + got + ", due is " + want);
         }
+    }
+
+    /** Most often one that is there, else one that went or was never made. */
+    private static int someDictionary(Model model) {
+        List<Integer> there = new ArrayList<>(model.dictionaries.keySet());
+        if (there.isEmpty() || pick(6) == 0) {
+            return pick(5) == 0 ? pick(9) - 4 : Math.max(0, model.made - pick(5));
+        }
+        return there.get(pick(there.size()));
     }
 
     private static long someNumber(int letters, int longest) {
